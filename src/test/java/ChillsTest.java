@@ -151,6 +151,12 @@ public final class ChillsTest {
         duePays(x, 0, 4, 1, 2);
         x.away(0, true);
         duePays(x, 1, 4, 1, 1);
+        x = CHECK.told("u03;999,d1001,d1000");
+        duePays(x, 0, 0, 10, 21);
+        duePays(x, 1, 0, 11, 21);
+        x = CHECK.told("u03;009,d0010,d0010,d0000");
+        duePays(x, 0, 2, 1, 3);
+        duePays(x, 2, 2, 1, 3);
         due("pays names no fault", x.fault(), 0);
     }
 }

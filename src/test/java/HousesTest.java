@@ -136,6 +136,7 @@ public final class HousesTest {
         x.gift(0, 0, 5);
         x.reading(0, 0, 0, 1);
         x.tell(0);
+        due("wood ahead of it", x.wood(0, 0, 0), 25);
         due("refused TEXT", CHECK.take(x, "u07;203;20"), -110);
         due("keeps houses", x.many(0), 1);
         due("keeps persons", x.many(1), 2);

@@ -124,7 +124,9 @@ public final class SheetsTest {
         x.sheet(3, 1, 2);
         due("to another", x.copy(0, 2, 3, 0, 2), 2);
         dueCells(x, 3, 1, 4, 5);
+        x.copy(0, 6, 3, 2, 0);
         due("none, at the ends", x.copy(0, 5, 3, 2, 0), 0);
+        due("fault is over", x.fault(), 0);
         x.put(3, 0, 9);
         dueCells(x, 0, 1, 2, 3, 4, 5, 5);
     }
