@@ -17,8 +17,8 @@ public final class TwoTowns {
     private static final int SHEETS = 4, LANES = 3, MOST_CELLS = 60, NOTHING = -1;
 
     private final Sheet[] sheets = new Sheet[SHEETS];
-    private final Gifts gifts = new Gifts();
-    private final Readings readings = new Readings();
+    private final Kept gifts = new Kept(MOST_GIFTS);
+    private final Kept readings = new Kept(MOST_READINGS);
     private Told told = new Told();
     private Told draft = new Told();
     private final Weeks real = new Weeks(told, gifts);
@@ -114,20 +114,13 @@ public final class TwoTowns {
         if (!isWeek(week) || wood < 1 || wood > MOST_WOOD) {
             return OUTSIDE;
         }
-        if (gifts.count >= MOST_GIFTS) {
-            return FULL;
-        }
         realIsFresh = false;
         return gifts.keep(h, week, wood);
     }
 
     public int undo(int k) {
-        if (k < 0 || k > gifts.count) {
-            return OUTSIDE;
-        }
-        gifts.count -= k;
         realIsFresh = false;
-        return gifts.count;
+        return gifts.takeBack(k);
     }
 
     // ---- 2 weeks
@@ -344,18 +337,11 @@ public final class TwoTowns {
         if (!isTime(week, half) || v < 0 || v > MOST_WEAR_READ) {
             return OUTSIDE;
         }
-        if (readings.count >= MOST_READINGS) {
-            return FULL;
-        }
         return readings.keep(h, timeOf(week, half), v);
     }
 
     public int back(int k) {
-        if (k < 0 || k > readings.count) {
-            return OUTSIDE;
-        }
-        readings.count -= k;
-        return readings.count;
+        return readings.takeBack(k);
     }
 
     public int gone() {
@@ -655,7 +641,7 @@ public final class TwoTowns {
 
     private boolean readingsAreSoInTrial() {
         trial.live(WEEKS, 0);
-        return readings.areSoIn(trial);
+        return readings.areWearOf(trial);
     }
 
     /** The upper (which 0) or lower number of a share in least terms; a share of nothing is 0. */
@@ -902,50 +888,50 @@ public final class TwoTowns {
         }
     }
 
-    private static final class Gifts {
-        private final int[] house = new int[MOST_GIFTS];
-        private final int[] week = new int[MOST_GIFTS];
-        private final int[] logs = new int[MOST_GIFTS];
+    /** GIFTS (when: the WEEK) or READINGS (when: the time), by their numbers. */
+    private static final class Kept {
+        private final int most;
+        private final int[] house;
+        private final int[] when;
+        private final int[] amount;
         int count = 0;
 
-        int keep(int toHouse, int inWeek, int given) {
-            if (count >= MOST_GIFTS) {
+        Kept(int mostOfThem) {
+            most = Math.max(0, mostOfThem);
+            house = new int[most];
+            when = new int[most];
+            amount = new int[most];
+        }
+
+        int keep(int h, int then, int v) {
+            if (count >= most) {
                 return FULL;
             }
-            house[count] = toHouse;
-            week[count] = inWeek;
-            logs[count] = given;
+            house[count] = h;
+            when[count] = then;
+            amount[count] = v;
             return count++;
         }
 
-        int sumOf(int toHouse, int inWeek) {
+        int takeBack(int k) {
+            if (k < 0 || k > count) {
+                return OUTSIDE;
+            }
+            count -= k;
+            return count;
+        }
+
+        int sumOf(int h, int then) {
             int sum = 0;
             for (int k = 0; k < count; k++) {
-                sum += house[k] == toHouse && week[k] == inWeek ? logs[k] : 0;
+                sum += house[k] == h && when[k] == then ? amount[k] : 0;
             }
             return sum;
         }
-    }
 
-    private static final class Readings {
-        private final int[] house = new int[MOST_READINGS];
-        private final int[] time = new int[MOST_READINGS];
-        private final int[] worn = new int[MOST_READINGS];
-        int count = 0;
-
-        int keep(int ofHouse, int atTime, int v) {
-            if (count >= MOST_READINGS) {
-                return FULL;
-            }
-            house[count] = ofHouse;
-            time[count] = atTime;
-            worn[count] = v;
-            return count++;
-        }
-
-        boolean areSoIn(Weeks weeks) {
+        boolean areWearOf(Weeks weeks) {
             for (int k = 0; k < count; k++) {
-                if (weeks.wearAt(house[k], time[k]) != worn[k]) {
+                if (weeks.wearAt(house[k], when[k]) != amount[k]) {
                     return false;
                 }
             }
@@ -961,14 +947,14 @@ public final class TwoTowns {
         private final int[] woodNow = new int[MOST_HOUSES];
         private final int[] wearNow = new int[MOST_HOUSES];
         final int[] wants = new int[MOST_PERSONS];
-        private final Gifts gifts;
+        private final Kept gifts;
         private Told told;
         private int away = 0;
         int seam = 0;
         int moreHouse = NONE;
         int moreWood = 0;
 
-        Weeks(Told first, Gifts given) {
+        Weeks(Told first, Kept given) {
             told = first;
             gifts = given;
         }
