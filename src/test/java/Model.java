@@ -139,7 +139,8 @@ final class Model {
     private int[] cells(int sheet, int lane, int i, int n) {
         Object row = ROWS[lane].cast(sheets[sheet]);
         row.hashCode();
-        Object cut = Array.newInstance(ROWS[lane].getComponentType(), n);
+        // No row has more than 60 cells: a larger n is an INDEX, not a want of memory.
+        Object cut = Array.newInstance(ROWS[lane].getComponentType(), Math.min(n, 61));
         System.arraycopy(row, i, cut, 0, n);
         int[] all = new int[n];
         for (int k = 0; k < n; k++) {
