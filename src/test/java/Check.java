@@ -2,12 +2,18 @@
 final class Check {
     private int asked = 0;
     private int wrong = 0;
+    private String about = "";
+
+    /** What the answers from now on are about: told with each that is not as due. */
+    void about(String what) {
+        about = what + ": ";
+    }
 
     void due(String call, long got, long want) {
         asked++;
         if (got != want) {
             wrong++;
-            System.out.println(call + " answered " + got + ", due is " + want);
+            System.out.println(about + call + " answered " + got + ", due is " + want);
         }
     }
 
