@@ -6,7 +6,7 @@ import java.util.TreeMap;
 public final class EdgeCoverTest {
     private static final int PROMISES = 39;
     private static final Class<?>[] TESTS = {EdgeTextTest.class, EdgeHousesTest.class, EdgeWeeksTest.class,
-        EdgeChillsTest.class, EdgeSeenTest.class, EdgeSheetsTest.class};
+        EdgeChillsTest.class, EdgeSeenTest.class, EdgeSheetsTest.class, EdgeFullTest.class};
 
     public static void main(String[] args) {
         Check check = new Check();

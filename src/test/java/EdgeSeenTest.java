@@ -253,6 +253,13 @@ public final class EdgeSeenTest {
         }
         x.due("put(1,14,2)", 1);
         x.due("row(1,2,14,1)", 1);
+        // What is ahead of the row, or behind it, is not asked.
+        x.fill(1, 2, 3, 0, 0, -1);
+        x.due("row(1,2,1,2)", 2);
+        x.due("row(1,2,1,0)", 0);
+        x.due("row(1,2,4,0)", 0);
+        x.refused("row(1,2,0,2)", Play.UNKNOWN);
+        x.refused("row(1,2,1,3)", Play.UNKNOWN);
     }
 
     @Says(promise = 23, text = "READINGS, 8 at most, numbered by how many there are")
@@ -374,6 +381,24 @@ public final class EdgeSeenTest {
         x.due("many(4)", 1);
     }
 
+    @Says(promise = 25, text = "were they AWAY, too (each alone)")
+    private static void goneThoughAwayAlready() {
+        Play x = play("u01;009,d0000,d0000,d0000");
+        x.due("away(2,true)", 1);
+        x.due("gone()", 7);
+        x.due("reading(0,0,0,2)", 0);
+        // As things are it is so, and they stay so with the one away who is.
+        x.due("gone()", 4);
+        x.due("back(1)", 0);
+        x.due("reading(0,0,0,1)", 0);
+        x.due("gone()", 3);
+        x.due("back(1)", 0);
+        x.due("reading(0,0,0,0)", 0);
+        x.due("gone()", 0);
+        x.due("away(1,true)", 1);
+        x.due("gone()", 1);
+    }
+
     @Says(promise = 25, text = "GONE, as a set. STATE: there are no HOUSES.")
     private static void refusalOfGone() {
         withoutHouses().refused("gone()", Play.STATE);
@@ -393,6 +418,29 @@ public final class EdgeSeenTest {
         x.due("reading(0,0,13,13)", 1);
         x.due("seams()", 1 << 13);
         x.due("many(2)", 7);
+    }
+
+    @Says(promise = {26, 27}, text = "by which all READINGS are so, as a set.")
+    private static void seamsAndKindsWithWhoIsAway() {
+        Play x = play("u07;009,d0000,d0000");
+        x.due("reading(0,0,13,13)", 0);
+        x.due("seams()", 0);
+        x.due("away(1,true)", 1);
+        x.due("seams()", 1 << 13);
+        x.due("away(0,true)", 1);
+        x.due("seams()", 0);
+        x.due("back(1)", 0);
+        x.due("reading(0,9,13,0)", 0);
+        x.due("seams()", ALL_SEAMS);
+        Play kinds = play("u01;009,f0001,d0000");
+        kinds.due("reading(0,0,0,1)", 0);
+        kinds.due("kinds(0)", 1);
+        kinds.due("away(1,true)", 1);
+        kinds.due("kinds(0)", 6);
+        kinds.due("away(0,true)", 1);
+        kinds.due("kinds(0)", 0);
+        kinds.due("away(1,false)", 1);
+        kinds.due("kinds(0)", 7);
     }
 
     @Says(promise = 26, text = "SEAMS, as a set. STATE: there are no HOUSES.")

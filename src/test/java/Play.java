@@ -125,9 +125,11 @@ final class Play {
     private void lookAtSheets(StringBuilder seen) {
         for (int k = 0; k < 4; k++) {
             for (int lane = 0; lane < 3; lane++) {
-                for (int i = 0; look(seen, "cell(" + k + "," + i + "," + lane + ")") != Long.MIN_VALUE; i++) {
-                    check.due("cell " + i + " of a row of 60 at most", i < 60 ? 1 : 0, 1);
+                int cells = 0;
+                while (cells <= 60 && look(seen, "cell(" + k + "," + cells + "," + lane + ")") != Long.MIN_VALUE) {
+                    cells++;
                 }
+                check.due("cells of a row, 60 at most: " + cells, cells <= 60 ? 1 : 0, 1);
                 look(seen, "fault()");
             }
         }
