@@ -273,6 +273,10 @@ public final class EdgeChillsTest {
         duePays(x, 1, 0, 1, 3);
         duePays(x, 2, 0, 1, 6);
         duePays(x, 3, 0, 1, 6);
+        // All numbers together are 1 alone.
+        Play one = play("u01;009;009,d0000,d0101");
+        duePays(one, 0, 0, 1, 1);
+        duePays(one, 1, 0, 0, 1);
     }
 
     @Says(promise = 19, text = "LOST: UNKNOWN; OUTSIDE: week, which.")
