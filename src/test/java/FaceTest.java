@@ -5,6 +5,7 @@ import java.nio.file.Files;
 import java.nio.file.Path;
 import java.util.Set;
 import java.util.TreeSet;
+import java.util.regex.Matcher;
 import java.util.regex.Pattern;
 
 /** The public face, and the rules of LANGUAGE.md that can be seen without running the class. */
@@ -26,8 +27,12 @@ public final class FaceTest {
     public static void main(String[] args) throws Exception {
         face();
         constants();
+        sizes();
         if (args.length > 0) {
             source(Files.readString(Path.of(args[0])));
+        }
+        if (args.length > 1) {
+            documentFace(Files.readString(Path.of(args[1])));
         }
         CHECK.end();
     }
@@ -49,6 +54,11 @@ public final class FaceTest {
             }
         }
         same("face", open.toString(), new TreeSet<>(Set.of(FACE.split("\\|"))).toString());
+        for (Class<?> inside : TwoTowns.class.getDeclaredClasses()) {
+            for (Method m : inside.getDeclaredMethods()) {
+                hidden.add(m.getName());
+            }
+        }
         hidden.retainAll(names);
         same("private names", hidden.toString(), "[]");
         CHECK.due("final", TwoTowns.class.getModifiers(), Modifier.PUBLIC | Modifier.FINAL);
@@ -56,6 +66,57 @@ public final class FaceTest {
         for (Class<?> inside : TwoTowns.class.getDeclaredClasses()) {
             CHECK.due(inside + " is static", Modifier.isStatic(inside.getModifiers()) ? 1 : 0, 1);
         }
+    }
+
+    /** Rules 5 and 11 of LANGUAGE.md. */
+    private static void sizes() {
+        Set<String> large = new TreeSet<>();
+        Class<?>[] inside = TwoTowns.class.getDeclaredClasses();
+        CHECK.due("classes: " + inside.length, inside.length < 12 ? 1 : 0, 1);
+        for (int k = -1; k < inside.length; k++) {
+            Class<?> one = k < 0 ? TwoTowns.class : inside[k];
+            int fields = 0;
+            for (Field f : one.getDeclaredFields()) {
+                fields += Modifier.isStatic(f.getModifiers()) ? 0 : 1;
+                if (Modifier.isStatic(f.getModifiers()) && !Modifier.isFinal(f.getModifiers())) {
+                    large.add(f + " is static and not final");
+                }
+            }
+            if (fields > 20) {
+                large.add(one + " has fields: " + fields);
+            }
+            for (Method m : one.getDeclaredMethods()) {
+                if (m.getParameterCount() > 7) {
+                    large.add(m + " has parameters: " + m.getParameterCount());
+                }
+            }
+        }
+        same("sizes", large.toString(), "[]");
+    }
+
+    /** The face as the document writes it, so that the list above is held against it, too. */
+    private static void documentFace(String document) throws Exception {
+        int from = document.indexOf("public final class TwoTowns {");
+        int to = document.indexOf("```", from);
+        CHECK.due("the document has a face", from >= 0 && to > from ? 1 : 0, 1);
+        String block = document.substring(from, to);
+        Set<String> told = new TreeSet<>();
+        Matcher method = Pattern.compile("public (\\w+) (\\w+)\\(([^)]*)\\);").matcher(block);
+        while (method.find()) {
+            told.add(method.group(1) + " " + method.group(2) + "("
+                + method.group(3).replaceAll(" \\w+(,|$)", "$1").replace(" ", "") + ")");
+        }
+        same("the document's calls", told.toString(), new TreeSet<>(Set.of(FACE.split("\\|"))).toString());
+        int constants = 0;
+        Matcher constant = Pattern.compile("(\\w+) = (Long\\.MIN_VALUE|-?\\d+)").matcher(block);
+        while (constant.find()) {
+            constants++;
+            long want = constant.group(2).startsWith("Long") ? Long.MIN_VALUE : Long.parseLong(constant.group(2));
+            CHECK.due(constant.group(1), TwoTowns.class.getField(constant.group(1)).getLong(null), want);
+        }
+        CHECK.due("the document's constants", constants, 6);
+        CHECK.due("promises, the constructor's among them",
+            document.split("\n## Promise \\d+: ").length - 1, told.size() + 1);
     }
 
     private static void constants() {
@@ -77,7 +138,21 @@ public final class FaceTest {
         CHECK.due("LOST", TwoTowns.LOST, Long.MIN_VALUE);
     }
 
+    /** Methods stay short: from a line that opens one to the brace that stands as far in. */
+    private static void lengths(String text) {
+        String opens = "^( +)(?!return|else)[\\w\\[\\] ]+\\([^;{}]*\\) \\{\n";
+        Matcher method = Pattern.compile("(?ms)" + opens + ".*?^\\1}$").matcher(text);
+        int methods = 0;
+        while (method.find()) {
+            int lines = method.group().split("\n").length;
+            methods++;
+            CHECK.due("lines of " + method.group().split("\n")[0].trim() + ": " + lines, lines <= 60 ? 1 : 0, 1);
+        }
+        CHECK.due("methods in the source: " + methods, methods > 38 ? 1 : 0, 1);
+    }
+
     private static void source(String text) {
+        lengths(text);
         String code = text.replaceAll("(?s)/\\*.*?\\*/", "").replaceAll("//[^\n]*", "")
             .replaceAll("\"([^\"\\\\]|\\\\.)*\"", "\"\"");
         for (String word : FORBIDDEN) {
