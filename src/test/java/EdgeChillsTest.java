@@ -157,6 +157,11 @@ public final class EdgeChillsTest {
         play("u09;009,d0000,d0000").due("warm(1)", 1);
         play("u10;009,d0000,d0000").due("warm(1)", Play.NONE);
         play("u01;009,d0010,d0010,d0010,d0010,d0010,d0010").due("warm(5)", Play.NONE);
+        // Without 0 there is wood enough; without 1, who mends, the HOUSE is BROKEN in WEEK 3: not by all others.
+        Play mended = play("u03;031,d0030,d0009,d0010");
+        mended.due("warm(2)", 1);
+        mended.due("away(1,true)", 1);
+        mended.due("warm(2)", Play.NONE);
         refusedPersons("warm");
     }
 
